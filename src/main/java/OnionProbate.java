@@ -1120,17 +1120,17 @@ public final class OnionProbate {
             }
             int first = layers;
             for (int parts = 2; parts <= n; parts++) {
-                first = firstPartFrom(0, layers - parts + 1);
+                first = firstPartEnd(0, layers - parts + 1);
                 // From the outside in: what lies deeper is then still that of one part less.
                 for (int i = 0; i + parts <= layers; i++) {
-                    row[i] = greatestWith(i, firstPartFrom(i, layers - parts + 1));
+                    row[i] = greatestWith(i, firstPartEnd(i, layers - parts + 1));
                 }
             }
             return first;
         }
 
         /** Where the first part best ends, at most there; of like ones the shortest. */
-        private int firstPartFrom(int from, int lastEnd) {
+        private int firstPartEnd(int from, int lastEnd) {
             int best = from + 1;
             for (int end = from + 2; end <= lastEnd; end++) {
                 if (greatestWith(from, end) < greatestWith(from, best)) {

@@ -320,6 +320,9 @@ public final class OnionProbate {
         if (k != NONE && !onion.hasLayer(k)) {
             return UNKNOWN;
         }
+        if (theCase.executors == 0) {
+            return NONE;
+        }
         int taker = trial.shareOut(onion, theCase.executors, k);
         return k == NONE ? spread(trial.shares, theCase.executors) : taker;
     }
@@ -488,13 +491,11 @@ public final class OnionProbate {
             at = 0;
             faultNumber = 0;
             faultAt = NONE;
-            if (length > 0) {
-                skipBlanks();
+            skipBlanks();
+            // Blanks may stand anywhere, so that a text of them alone says no more than an empty one.
+            theCase.isThere = at < length;
+            for (int i = 0; i < MOST_LETTERS && faultNumber == 0 && at < length; i++) {
                 readClause(theCase);
-                for (int i = 0; i < MOST_LETTERS && faultNumber == 0 && at < length; i++) {
-                    readClause(theCase);
-                }
-                theCase.isThere = true;
             }
             length = 0;
         }

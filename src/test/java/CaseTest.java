@@ -9,7 +9,9 @@ public final class CaseTest {
         faultsAtLimits();
         faultLeavesAll();
         blanks();
-        emptyText();
+        emptyText("");
+        emptyText(" ");
+        emptyText(" ".repeat(240));
         newCaseForgets();
         manyTexts();
         allFull();
@@ -116,7 +118,8 @@ public final class CaseTest {
         fault("m0;t0,0", 1, 7);
         fault("m0;\t", 1, 3);
         fault("m0;" + (char) 233, 1, 3);
-        fault(" ", 1, 1);
+        fault("  x", 1, 2);
+        fault("  l0 1;", 1, 2);
     }
 
     private static void faultsAtLimits() {
@@ -185,11 +188,14 @@ public final class CaseTest {
         fine("m0;l0" + " 1;", 1);
     }
 
-    private static void emptyText() {
+    /** A text that tells nothing: without letters, or of blanks alone. */
+    private static void emptyText(String text) {
         OnionProbate x = Check.of(ALL);
         x.keep(0);
         x.year(3);
+        Check.feedAll(x, text);
         Check.due("empty text", x.probate(), 0);
+        Check.due("no letters any more", x.told(4), 0);
         Check.due("no case", x.told(0), 0);
         Check.due("no layers", x.told(1), 0);
         Check.due("no executors", x.told(2), 0);

@@ -50,7 +50,7 @@ public final class RandomRunsTest {
 
     private String randomText() {
         if (below(25) == 0) {
-            return "";
+            return " ".repeat(below(3));
         }
         StringBuilder s = new StringBuilder("m").append(below(100)).append(';');
         int kinds = 1 + below(5);

@@ -167,7 +167,12 @@ public final class TriedTest {
         OnionProbate alone = Check.of("m0;l0 9;");
         Check.due("no executor", alone.fair(0), OnionProbate.NONE);
         Check.due("no layer", alone.fair(1), OnionProbate.UNKNOWN);
-        Check.due("no executor, no envy", alone.fair(OnionProbate.NONE), 0);
+        Check.due("no executor: no envy either", alone.fair(OnionProbate.NONE), OnionProbate.NONE);
+        Check.due("no case: no envy", new OnionProbate().fair(OnionProbate.NONE), OnionProbate.NONE);
+        Check.due("no case: no layer", new OnionProbate().fair(0), OnionProbate.UNKNOWN);
+        Check.due("neither executor nor layer", Check.of("m0;").fair(OnionProbate.NONE), OnionProbate.NONE);
+        Check.due("no layer, no envy", Check.of("m0;e0 1;e0 1;").fair(OnionProbate.NONE), 0);
+        Check.due("told's envy without executors", alone.told(13), 0);
         Check.due("one executor, no envy", Check.of("m0;l0 9;e0 1;").fair(OnionProbate.NONE), 0);
     }
 

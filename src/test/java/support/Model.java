@@ -135,7 +135,7 @@ final class Model {
 
     int probate() {
         List<Token> all = tokens(text);
-        boolean empty = text.isEmpty();
+        boolean empty = text.chars().allMatch(letter -> letter == ' ');
         text = "";
         faultAt = NONE;
         Model draft = new Model();
@@ -627,7 +627,6 @@ final class Model {
         int[] shares = gots();
         int[] takers = new int[now.layers.size()];
         for (int i = 0; i < takers.length; i++) {
-            takers[i] = shares.length == 0 ? NONE : 0;
             for (int e = 0; e < shares.length; e++) {
                 if (shares[e] < shares[takers[i]]) {
                     takers[i] = e;
@@ -637,7 +636,7 @@ final class Model {
                 shares[takers[i]] += now.layers.get(i).worth();
             }
         }
-        return k == NONE ? envy(shares) : takers[k];
+        return shares.length == 0 ? NONE : k == NONE ? envy(shares) : takers[k];
     }
 
     int dry(int n, int q) {

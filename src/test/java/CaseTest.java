@@ -56,97 +56,80 @@ public final class CaseTest {
         Check.due("feed again", x.feed('m'), 1);
     }
 
-    private static void fault(String text, int number, int at) {
-        OnionProbate x = new OnionProbate();
-        Check.feedAll(x, text);
-        Check.due("probate of " + text, x.probate(), -10 - number);
-        Check.due("fault of " + text, x.fault(), at);
-        Check.due("no case by " + text, x.told(0), 0);
-        Check.due("text is gone: " + text, x.told(4), 0);
-    }
-
-    private static void fine(String text, int layers) {
-        OnionProbate x = new OnionProbate();
-        Check.feedAll(x, text);
-        Check.due("probate of " + text, x.probate(), layers);
-        Check.due("fault of " + text, x.fault(), OnionProbate.NONE);
-        Check.due("case by " + text, x.told(0), 1);
-    }
-
     private static void faults() {
-        fault("x", 1, 0);
-        fault("M0;", 1, 0);
-        fault("l0 1;m0;", 1, 0);
-        fault(";", 1, 0);
-        fault("5000;", 1, 0);
-        fault("m", 1, 1);
-        fault("m5", 1, 2);
-        fault("m5   ", 1, 5);
-        fault("m;", 1, 1);
-        fault("m,", 1, 1);
-        fault("m-1;", 1, 1);
-        fault("m5 6;", 1, 3);
-        fault("m5;;", 1, 3);
-        fault("m5;5000;", 1, 3);
-        fault("m5x;", 1, 2);
-        fault("m100x", 2, 1);
-        fault("m1234567890123;", 2, 1);
-        fault("m  0000;", 2, 3);
-        fault("m0;m1;", 3, 3);
-        fault("m0;m", 3, 3);
-        fault("m0;l", 1, 4);
-        fault("m0;l0", 1, 5);
-        fault("m0;l00;", 1, 6);
-        fault("m0;l09;", 2, 4);
-        fault("m0;l0,9;", 1, 5);
-        fault("m0;l0 9 1;", 1, 8);
-        fault("m0;l9 99x", 2, 4);
-        fault("m0;l0 99x", 2, 6);
-        fault("m0;l0 0021;", 2, 6);
-        fault("m0;e0;", 1, 5);
-        fault("m0;e0 1 1;", 1, 8);
-        fault("m0;e10 1;", 2, 4);
-        fault("m0;e0 0;", 2, 6);
-        fault("m0;e0 10;", 2, 6);
-        fault("m0;t;", 1, 4);
-        fault("m0;t0 1;", 1, 6);
-        fault("m0;t0,;", 1, 6);
-        fault("m0;t0,5;", 2, 6);
-        fault("m0;t,0;", 1, 4);
-        fault("m0;t0,0,0,0,0,0,0,0,9999;", 1, 19);
-        fault("m0;t0,0,0,0,0,0,0,0 , 0;", 1, 20);
-        fault("m0;t0,0", 1, 7);
-        fault("m0;\t", 1, 3);
-        fault("m0;" + (char) 233, 1, 3);
-        fault("  x", 1, 2);
-        fault("  l0 1;", 1, 2);
+        Texts.fault("x", 1, 0);
+        Texts.fault("M0;", 1, 0);
+        Texts.fault("l0 1;m0;", 1, 0);
+        Texts.fault(";", 1, 0);
+        Texts.fault("5000;", 1, 0);
+        Texts.fault("m", 1, 1);
+        Texts.fault("m5", 1, 2);
+        Texts.fault("m5   ", 1, 5);
+        Texts.fault("m;", 1, 1);
+        Texts.fault("m,", 1, 1);
+        Texts.fault("m-1;", 1, 1);
+        Texts.fault("m5 6;", 1, 3);
+        Texts.fault("m5;;", 1, 3);
+        Texts.fault("m5;5000;", 1, 3);
+        Texts.fault("m5x;", 1, 2);
+        Texts.fault("m100x", 2, 1);
+        Texts.fault("m1234567890123;", 2, 1);
+        Texts.fault("m  0000;", 2, 3);
+        Texts.fault("m0;m1;", 3, 3);
+        Texts.fault("m0;m", 3, 3);
+        Texts.fault("m0;l", 1, 4);
+        Texts.fault("m0;l0", 1, 5);
+        Texts.fault("m0;l00;", 1, 6);
+        Texts.fault("m0;l09;", 2, 4);
+        Texts.fault("m0;l0,9;", 1, 5);
+        Texts.fault("m0;l0 9 1;", 1, 8);
+        Texts.fault("m0;l9 99x", 2, 4);
+        Texts.fault("m0;l0 99x", 2, 6);
+        Texts.fault("m0;l0 0021;", 2, 6);
+        Texts.fault("m0;e0;", 1, 5);
+        Texts.fault("m0;e0 1 1;", 1, 8);
+        Texts.fault("m0;e10 1;", 2, 4);
+        Texts.fault("m0;e0 0;", 2, 6);
+        Texts.fault("m0;e0 10;", 2, 6);
+        Texts.fault("m0;t;", 1, 4);
+        Texts.fault("m0;t0 1;", 1, 6);
+        Texts.fault("m0;t0,;", 1, 6);
+        Texts.fault("m0;t0,5;", 2, 6);
+        Texts.fault("m0;t,0;", 1, 4);
+        Texts.fault("m0;t0,0,0,0,0,0,0,0,9999;", 1, 19);
+        Texts.fault("m0;t0,0,0,0,0,0,0,0 , 0;", 1, 20);
+        Texts.fault("m0;t0,0", 1, 7);
+        Texts.fault("m0;\t", 1, 3);
+        Texts.fault("m0;" + (char) 233, 1, 3);
+        Texts.fault("  x", 1, 2);
+        Texts.fault("  l0 1;", 1, 2);
     }
 
     private static void faultsAtLimits() {
-        fine("m0;", 0);
-        fine("m99;", 0);
-        fine("m099;", 0);
-        fine("m000;", 0);
-        fault("m100;", 2, 1);
-        fine("m0;l4 20;", 1);
-        fine("m0;l004 020;", 1);
-        fault("m0;l5 20;", 2, 4);
-        fault("m0;l4 21;", 2, 6);
-        fault("m0;l4 0;", 2, 6);
-        fine("m0;e9 9;", 0);
-        fine("m0;t0,1,2,3,4,0,1,2;", 0);
+        Texts.fine("m0;", 0);
+        Texts.fine("m99;", 0);
+        Texts.fine("m099;", 0);
+        Texts.fine("m000;", 0);
+        Texts.fault("m100;", 2, 1);
+        Texts.fine("m0;l4 20;", 1);
+        Texts.fine("m0;l004 020;", 1);
+        Texts.fault("m0;l5 20;", 2, 4);
+        Texts.fault("m0;l4 21;", 2, 6);
+        Texts.fault("m0;l4 0;", 2, 6);
+        Texts.fine("m0;e9 9;", 0);
+        Texts.fine("m0;t0,1,2,3,4,0,1,2;", 0);
         String layers = "m0;" + "l0 1;".repeat(12);
-        fine(layers, 12);
-        fault(layers + "l", 3, 63);
-        fault(layers + "l9 99;", 3, 63);
+        Texts.fine(layers, 12);
+        Texts.fault(layers + "l", 3, 63);
+        Texts.fault(layers + "l9 99;", 3, 63);
         String executors = "m0;" + "e0 1;".repeat(5);
-        fine(executors, 0);
-        fault(executors + "e0 1;", 3, 28);
+        Texts.fine(executors, 0);
+        Texts.fault(executors + "e0 1;", 3, 28);
         String types = "m0;" + "t0;".repeat(6);
-        fine(types, 0);
-        fault(types + "t0;", 3, 21);
-        fault(types + "  t", 3, 23);
-        fine("m0;t1;e2 2;l3 3;t1;l0 1;e0 1;", 2);
+        Texts.fine(types, 0);
+        Texts.fault(types + "t0;", 3, 21);
+        Texts.fault(types + "  t", 3, 23);
+        Texts.fine("m0;t1;e2 2;l3 3;t1;l0 1;e0 1;", 2);
     }
 
     private static void faultLeavesAll() {
@@ -185,7 +168,7 @@ public final class CaseTest {
         Check.due("quick", x.executor(0, 1), 2);
         Check.due("type", x.type(0, 2), 2);
         Check.due("type's end", x.type(0, 3), OnionProbate.NONE);
-        fine("m0;l0" + " 1;", 1);
+        Texts.fine("m0;l0" + " 1;", 1);
     }
 
     /** A text that tells nothing: without letters, or of blanks alone. */

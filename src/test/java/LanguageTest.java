@@ -27,33 +27,29 @@ public final class LanguageTest {
         Check.end();
     }
 
-    private static void isSo(String what, boolean is) {
-        Check.due(what, is ? 1 : 0, 1);
-    }
-
     private static void face() {
-        isSo("public and final", Modifier.toString(OnionProbate.class.getModifiers()).equals("public final"));
+        Check.isSo("public and final", Modifier.toString(OnionProbate.class.getModifiers()).equals("public final"));
         Set<String> found = new TreeSet<>();
         for (Method m : OnionProbate.class.getDeclaredMethods()) {
             if (!Modifier.isPrivate(m.getModifiers())) {
                 String types = String.join(",", Arrays.stream(m.getParameterTypes()).map(Class::getName).toList());
                 found.add(m.getName() + "(" + types + ")");
-                isSo(m + " is public, answers int", Modifier.toString(m.getModifiers()).equals("public")
+                Check.isSo(m + " is public, answers int", Modifier.toString(m.getModifiers()).equals("public")
                     && m.getReturnType() == int.class);
             }
         }
-        isSo("the face: " + found, found.equals(new TreeSet<>(Arrays.asList(FACE.split(" ")))));
+        Check.isSo("the face: " + found, found.equals(new TreeSet<>(Arrays.asList(FACE.split(" ")))));
         Set<String> constants = new TreeSet<>();
         for (Field f : OnionProbate.class.getDeclaredFields()) {
             if (!Modifier.isPrivate(f.getModifiers())) {
                 constants.add(Modifier.toString(f.getModifiers()) + " " + f.getType() + " " + f.getName());
             }
         }
-        isSo("the constants: " + constants, constants.toString().equals("[public static final int FULL, "
+        Check.isSo("the constants: " + constants, constants.toString().equals("[public static final int FULL, "
             + "public static final int NONE, public static final int NOT, public static final int OUTSIDE, "
             + "public static final int UNKNOWN]"));
         Constructor<?>[] makers = OnionProbate.class.getDeclaredConstructors();
-        isSo("one public constructor", makers.length == 1 && makers[0].getParameterCount() == 0
+        Check.isSo("one public constructor", makers.length == 1 && makers[0].getParameterCount() == 0
             && Modifier.isPublic(makers[0].getModifiers()));
     }
 
@@ -63,23 +59,23 @@ public final class LanguageTest {
             open.add(method.substring(0, method.indexOf('(')));
         }
         Class<?>[] inside = OnionProbate.class.getDeclaredClasses();
-        isSo("at most twelve classes", inside.length < 12);
+        Check.isSo("at most twelve classes", inside.length < 12);
         for (Class<?> c : inside) {
-            isSo(c + " is static", Modifier.isStatic(c.getModifiers()));
-            isSo(c + " has few fields", c.getDeclaredFields().length <= 20);
+            Check.isSo(c + " is static", Modifier.isStatic(c.getModifiers()));
+            Check.isSo(c + " has few fields", c.getDeclaredFields().length <= 20);
             for (Method m : c.getDeclaredMethods()) {
-                isSo(m + " has a name of its own", !open.contains(m.getName()));
-                isSo(m + " has few parameters", m.getParameterCount() <= 7);
+                Check.isSo(m + " has a name of its own", !open.contains(m.getName()));
+                Check.isSo(m + " has few parameters", m.getParameterCount() <= 7);
             }
         }
         for (Method m : OnionProbate.class.getDeclaredMethods()) {
-            isSo(m + " has a name of its own", Modifier.isPublic(m.getModifiers()) || !open.contains(m.getName()));
+            Check.isSo(m + " has a name of its own", Modifier.isPublic(m.getModifiers()) || !open.contains(m.getName()));
         }
     }
 
     private static void source() throws IOException {
         String text = Files.readString(Path.of("src/main/java/OnionProbate.java"));
-        isSo("plain signs alone", text.chars().allMatch(c -> c == '\n' || c >= 32 && c < 127));
+        Check.isSo("plain signs alone", text.chars().allMatch(c -> c == '\n' || c >= 32 && c < 127));
         String code = text.replaceAll("(?s)/\\*.*?\\*/", "").replaceAll("//[^\n]*", "");
         String[] ruledOut = {"throw", "throws", "try", "catch", "synchronized", "assert", "package", "import",
             "protected", "native", "volatile", "transient", "Object", "double", "float", "equals", "hashCode",
@@ -90,14 +86,14 @@ public final class LanguageTest {
                 pattern = "\\b" + word + "\\b";
             }
             Matcher m = Pattern.compile(pattern).matcher(code);
-            isSo("no " + word, !m.find());
+            Check.isSo("no " + word, !m.find());
         }
         Set<String> library = new TreeSet<>();
         Matcher m = Pattern.compile("\\b(System|Math|Integer|Long|Arrays|String|StringBuilder)\\.\\w+").matcher(code);
         while (m.find()) {
             library.add(m.group());
         }
-        isSo("the library: " + library, Set.of("System.arraycopy", "Math.min", "Math.max", "Integer.bitCount")
+        Check.isSo("the library: " + library, Set.of("System.arraycopy", "Math.min", "Math.max", "Integer.bitCount")
             .containsAll(library));
         methodLengths(code);
     }
@@ -110,7 +106,7 @@ public final class LanguageTest {
                 start = i;
             }
             if (lines[i].matches(" {4,8}\\}")) {
-                isSo("the method at line " + start + " is short", i - start <= 60 || lines[i].startsWith("    }"));
+                Check.isSo("the method at line " + start + " is short", i - start <= 60 || lines[i].startsWith("    }"));
             }
         }
     }

@@ -2,6 +2,8 @@
 public final class Check {
     private static int checked = 0;
     private static int wrong = 0;
+    /** The document's words that the answers are held to now; empty: told by the call's own name. */
+    static String sentence = "";
 
     private Check() {
     }
@@ -10,8 +12,13 @@ public final class Check {
         checked++;
         if (got != want) {
             wrong++;
-            System.out.println(call + " answered " + got + ", due is " + want);
+            System.out.println((sentence.isEmpty() ? "" : "[" + sentence + "] ") + call + " answered " + got
+                + ", due is " + want);
         }
+    }
+
+    static void isSo(String what, boolean is) {
+        due(what, is ? 1 : 0, 1);
     }
 
     static void feedAll(OnionProbate x, String text) {

@@ -69,40 +69,27 @@ public final class TriedTest {
         Check.due("outside, of none too", none.parts(5, 2), OnionProbate.OUTSIDE);
     }
 
-    private static void turns(String text, int more, int first) {
-        OnionProbate x = Check.of(text);
-        Check.due("byTurns(0) of " + text, x.byTurns(0), 1000 + more);
-        Check.due("byTurns(1) of " + text, x.byTurns(1), first);
-    }
-
     private static void byTurns() {
-        turns("m0;", 0, 0);
-        turns("m0;l0 7;", 7, 1);
-        turns("m0;l4 7;", 0, 1);
-        turns("m0;l0 7;l0 2;", 9, 2);
-        turns("m0;l0 7;l4 2;", 7, 1);
-        turns("m0;l0 1;l0 1;l0 20;", -18, 2);
-        turns("m0;l0 1;l0 2;l0 20;", -17, 2);
-        turns("m0;l0 1;l0 1;l0 1;l0 20;", 19, 1);
-        turns("m0;l2 3;l1 5;l4 1;l3 2;l0 9;", 15, 2);
+        Trials.turns("m0;", 0, 0);
+        Trials.turns("m0;l0 7;", 7, 1);
+        Trials.turns("m0;l4 7;", 0, 1);
+        Trials.turns("m0;l0 7;l0 2;", 9, 2);
+        Trials.turns("m0;l0 7;l4 2;", 7, 1);
+        Trials.turns("m0;l0 1;l0 1;l0 20;", -18, 2);
+        Trials.turns("m0;l0 1;l0 2;l0 20;", -17, 2);
+        Trials.turns("m0;l0 1;l0 1;l0 1;l0 20;", 19, 1);
+        Trials.turns("m0;l2 3;l1 5;l4 1;l3 2;l0 9;", 15, 2);
         Check.due("byTurns(2)", Check.of("m0;").byTurns(2), OnionProbate.OUTSIDE);
         Check.due("byTurns(-1)", Check.of("m0;").byTurns(-1), OnionProbate.OUTSIDE);
         Check.due("no case", new OnionProbate().byTurns(0), 1000);
     }
 
-    private static void sides(String text, int first, int other, int last) {
-        OnionProbate x = Check.of(text);
-        Check.due("twoSides(0) of " + text, x.twoSides(0), first);
-        Check.due("twoSides(1) of " + text, x.twoSides(1), other);
-        Check.due("twoSides(2) of " + text, x.twoSides(2), last);
-    }
-
     private static void twoSides() {
-        sides("m0;", 0, 0, OnionProbate.NONE);
-        sides("m0;l2 4;", 8, 0, 0);
-        sides("m0;l2 4;l1 7;", 8, 3, 1);
-        sides("m0;l2 4;l1 7;l0 5;", 11, 5, 1);
-        sides("m0;l2 4;l1 7;l0 5;l4 9;", 11, 5, 2);
+        Trials.sides("m0;", 0, 0, OnionProbate.NONE);
+        Trials.sides("m0;l2 4;", 8, 0, 0);
+        Trials.sides("m0;l2 4;l1 7;", 8, 3, 1);
+        Trials.sides("m0;l2 4;l1 7;l0 5;", 11, 5, 1);
+        Trials.sides("m0;l2 4;l1 7;l0 5;l4 9;", 11, 5, 2);
         Check.due("twoSides(3)", Check.of("m0;").twoSides(3), OnionProbate.OUTSIDE);
         Check.due("twoSides(-1)", Check.of("m0;").twoSides(-1), OnionProbate.OUTSIDE);
     }
@@ -138,18 +125,12 @@ public final class TriedTest {
         Check.due("no layers", Check.of("m0;t0,0;").allows(0), 0);
     }
 
-    private static void row(String text, int length, int first) {
-        OnionProbate x = Check.of(text);
-        Check.due("run(0) of " + text, x.run(0), length);
-        Check.due("run(1) of " + text, x.run(1), first);
-    }
-
     private static void run() {
-        row("m0;", 0, OnionProbate.NONE);
-        row("m0;l0 1;", 1, 0);
-        row("m0;l0 1;l1 1;l1 2;l0 1;", 2, 1);
-        row("m0;l0 1;l0 1;l1 2;l1 1;", 2, 0);
-        row("m0;l0 1;l0 1;l1 2;l1 1;l1 1;", 3, 2);
+        Trials.row("m0;", 0, OnionProbate.NONE);
+        Trials.row("m0;l0 1;", 1, 0);
+        Trials.row("m0;l0 1;l1 1;l1 2;l0 1;", 2, 1);
+        Trials.row("m0;l0 1;l0 1;l1 2;l1 1;", 2, 0);
+        Trials.row("m0;l0 1;l0 1;l1 2;l1 1;l1 1;", 3, 2);
         Check.due("run(2)", Check.of("m0;").run(2), OnionProbate.OUTSIDE);
         Check.due("run(-1)", Check.of("m0;").run(-1), OnionProbate.OUTSIDE);
     }

@@ -54,7 +54,7 @@ final class DeedEdges {
 
     private static void outmostIsGone() {
         Doc.says(0, "LAYER 0 is the outmost one.");
-        OnionProbate x = Check.of("m0;" + "l0 1;".repeat(10) + "l0 7;l0 8;e0 1;");
+        OnionProbate x = Check.of("m0;" + "l0 1;".repeat(10) + "l1 7;l2 8;e0 1;");
         Check.due("layer(0, 1)", x.layer(0, 1), 1);
         Check.due("layer(11, 1)", x.layer(11, 1), 8);
 
@@ -62,7 +62,9 @@ final class DeedEdges {
         x.peel(0);
         Check.due("eleven", x.told(1), 11);
         Check.due("layer(10, 1)", x.layer(10, 1), 8);
+        Check.due("layer(10, 0)", x.layer(10, 0), 2);
         Check.due("layer(9, 1)", x.layer(9, 1), 7);
+        Check.due("layer(9, 0)", x.layer(9, 0), 1);
         Check.due("layer(11, 1)", x.layer(11, 1), UNKNOWN);
     }
 
@@ -160,6 +162,7 @@ final class DeedEdges {
         Check.due("eleven", eleven.visit(), 1);
         Check.due("twelve now", eleven.told(1), 12);
         Check.due("the innermost", eleven.layer(11, 1), 9);
+        Check.due("its KIND", eleven.layer(11, 0), 3);
         Check.due("a twelfth is THICKER all the same", eleven.visit(), 2);
         OnionProbate twelve = Check.of("m0;l1 20;" + "l0 1;".repeat(10) + "l3 9;");
         Check.due("twelve", twelve.visit(), 20);

@@ -93,6 +93,10 @@ final class KeptEdges {
         Check.due("of like ones the least", asked("m0;t0,0;t1,1;"), 0);
         Check.due("the later one is better", asked("m0;t0,0;t0,1;t1,2;"), 1);
         Check.due("none is a part", asked("m0;t0,1;t0,1;t0;t0;t1,2;"), 1);
+        Check.due("of none there are fewer deeper", asked("m0;t0,0,0;t0,0,1;t0,0;t0;"), 2);
+        OnionProbate those = Check.of("m0;t0,0;t0,1;t1,0;");
+        those.guess(0, 0, true);
+        Check.due("not by those that it can't be", those.ask(), 1);
         OnionProbate x = Check.of("m0;t0,0;t0,1;t1;");
         x.guess(0, 1, false);
         Check.due("of these alone", x.ask(), 1);

@@ -322,6 +322,12 @@ final class TextEdges {
         Check.due("a fault", x.probate(), -11);
         Check.due("it is empty then, too", x.told(4), 0);
         Check.due("and an empty one is no fault", x.probate(), 0);
+        // Of an earlier text, and of one with a FAULT, nothing is left in the next.
+        for (String text : new String[] {"m1;l0 1;l1 1;e0 1;t0;t1;x", "m3;l3 2;l3 3;e1 1;e2 2;t3,3;"}) {
+            Check.feedAll(x, text);
+            x.probate();
+        }
+        same(x, Check.of("m3;l3 2;l3 3;e1 1;e2 2;t3,3;"));
 
         Doc.says(3, "(YEAR 0, nothing GOT, no TEARS, not STOPPED, THE LOG is empty");
         Doc.says(3, "nothing GUESSED, no BOOK; IMAGES, what could be undone are gone; THE SEED stays)");

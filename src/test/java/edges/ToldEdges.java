@@ -113,6 +113,15 @@ final class ToldEdges {
             .is("logged(0, MAX)", x -> x.logged(0, Integer.MAX_VALUE), OUTSIDE).unchanged();
         Check.due("without a CASE", new OnionProbate().logged(0, 0), NONE);
 
+        OnionProbate shoot = Check.of("m0;l0 1;l3 4;l4 2;e0 1;e0 1;");
+        shoot.peel(0);
+        shoot.year(7);
+        shoot.peel(1);
+        int[] entry = {7, 1, 3, 11};
+        for (int what = 0; what < entry.length; what++) {
+            Check.due("logged(0, " + what + ")", shoot.logged(0, what), entry[what]);
+        }
+
         Doc.says(0, "THE LOG keeps the latest 20");
         OnionProbate x = Check.of("m0;l4 20;e0 1;e0 1;");
         for (int i = 1; i <= 21; i++) {
@@ -195,6 +204,11 @@ final class ToldEdges {
         Check.due("two", y.told(13), 5);
         y.peel(0);
         Check.due("like ones", y.told(13), 0);
+        OnionProbate z = Check.of("m0;l0 5;l0 6;e0 1;e0 1;e0 1;e0 1;e0 1;");
+        z.peel(4);
+        Check.due("the fifth of five", z.told(13), 5);
+        z.peel(0);
+        Check.due("the first of five", z.told(13), 6);
     }
 
     private static void weeps() {
@@ -228,5 +242,8 @@ final class ToldEdges {
         y.peel(0);
         y.peel(1);
         Check.due("the one that is dry last", y.told(15), 2);
+        OnionProbate z = Check.of("m0;l0 9;e0 1;e0 1;e0 1;e0 1;e0 2;");
+        z.peel(4);
+        Check.due("the fifth of five", z.told(15), 5);
     }
 }

@@ -79,12 +79,6 @@ final class TrialEdges {
         worth("m0;l1 1;l4 1;l1 9;l4 1;l4 1;e0 1;", 5, 9);
     }
 
-    private static void part(String text, int n, int much, int first) {
-        OnionProbate x = Check.of(text);
-        Check.due("parts(" + n + ", 0) of " + text, x.parts(n, 0), much);
-        Check.due("parts(" + n + ", 1) of " + text, x.parts(n, 1), first);
-    }
-
     private static void parts() {
         Doc.says(17, "PARTS: what = 0 how much, 1 LAYERS in the first; NONE. OUTSIDE.");
         Twins.rich().is("parts(0, 0)", x -> x.parts(0, 0), OUTSIDE).is("parts(6, 0)", x -> x.parts(6, 0), OUTSIDE)
@@ -95,33 +89,27 @@ final class TrialEdges {
 
         Doc.says(0, "into n parts (1 .. 5), one behind the other (none may be empty, if there are n LAYERS or more; else "
             + "NONE), so that the greatest STING of a part is least");
-        part("m0;", 1, NONE, NONE);
-        part("m0;", 5, NONE, NONE);
-        part("m0;l2 20;", 1, 40, 1);
-        part("m0;l2 20;", 2, NONE, NONE);
-        part("m0;l0 1;l0 2;l0 3;l0 4;", 4, 4, 1);
-        part("m0;l0 1;l0 2;l0 3;l0 4;", 5, NONE, NONE);
-        part("m0;l0 1;l0 2;l0 3;l0 4;l0 5;", 5, 5, 1);
-        part("m0;l4 9;l0 5;", 2, 5, 1);
-        part("m0;l0 5;l4 9;", 2, 5, 1);
-        part("m0;l4 1;l4 1;l4 1;", 3, 0, 1);
-        part("m0;" + "l2 20;".repeat(12), 1, 480, 12);
+        Trials.part("m0;", 1, NONE, NONE);
+        Trials.part("m0;", 5, NONE, NONE);
+        Trials.part("m0;l2 20;", 1, 40, 1);
+        Trials.part("m0;l2 20;", 2, NONE, NONE);
+        Trials.part("m0;l0 1;l0 2;l0 3;l0 4;", 4, 4, 1);
+        Trials.part("m0;l0 1;l0 2;l0 3;l0 4;", 5, NONE, NONE);
+        Trials.part("m0;l0 1;l0 2;l0 3;l0 4;l0 5;", 5, 5, 1);
+        Trials.part("m0;l4 9;l0 5;", 2, 5, 1);
+        Trials.part("m0;l0 5;l4 9;", 2, 5, 1);
+        Trials.part("m0;l4 1;l4 1;l4 1;", 3, 0, 1);
+        Trials.part("m0;" + "l2 20;".repeat(12), 1, 480, 12);
 
         Doc.says(0, "the number of LAYERS in the first part (of like partings the fewest in the first, then in the second, "
             + "and so on)");
-        part("m0;" + "l2 20;".repeat(12), 5, 120, 1);
-        part("m0;" + "l2 20;".repeat(12), 2, 240, 6);
-        part("m0;l0 1;l0 1;l0 9;", 2, 9, 2);
-        part("m0;l0 1;l0 1;l0 9;l0 9;", 3, 9, 2);
-        part("m0;l0 1;l0 1;l0 9;l0 2;", 3, 9, 2);
-        part("m0;l0 1;l0 1;l0 9;l4 1;", 3, 9, 1);
-        part("m0;l4 1;l4 1;l0 9;l4 1;", 3, 9, 1);
-    }
-
-    private static void turns(String text, int more, int first) {
-        OnionProbate x = Check.of(text);
-        Check.due("byTurns(0) of " + text, x.byTurns(0), 1000 + more);
-        Check.due("byTurns(1) of " + text, x.byTurns(1), first);
+        Trials.part("m0;" + "l2 20;".repeat(12), 5, 120, 1);
+        Trials.part("m0;" + "l2 20;".repeat(12), 2, 240, 6);
+        Trials.part("m0;l0 1;l0 1;l0 9;", 2, 9, 2);
+        Trials.part("m0;l0 1;l0 1;l0 9;l0 9;", 3, 9, 2);
+        Trials.part("m0;l0 1;l0 1;l0 9;l0 2;", 3, 9, 2);
+        Trials.part("m0;l0 1;l0 1;l0 9;l4 1;", 3, 9, 1);
+        Trials.part("m0;l4 1;l4 1;l0 9;l4 1;", 3, 9, 1);
     }
 
     private static void byTurns() {
@@ -130,28 +118,34 @@ final class TrialEdges {
             .is("byTurns(MIN)", x -> x.byTurns(MIN), OUTSIDE).is("byTurns(MAX)", x -> x.byTurns(MAX), OUTSIDE).unchanged();
 
         Doc.says(0, "BY TURNS: two peel by turns, each one or two LAYERS (as many as there are at most)");
-        turns("m0;l0 3;", 3, 1);
-        turns("m0;l0 3;l0 4;", 7, 2);
-        turns("m0;l0 3;l0 4;l0 5;", 2, 2);
-        turns("m0;l0 1;l0 1;l0 20;l2 20;", 1 - 1 + 20 - 40 + 40, 1);
+        Trials.turns("m0;l0 3;", 3, 1);
+        Trials.turns("m0;l0 3;l0 4;", 7, 2);
+        Trials.turns("m0;l0 3;l0 4;l0 5;", 2, 2);
+        Trials.turns("m0;l0 1;l0 1;l0 20;l2 20;", 1 - 1 + 20 - 40 + 40, 1);
 
         Doc.says(0, "how many the first should peel first (of like ones 1; 0: there is no LAYER)");
-        turns("m0;", 0, 0);
-        turns("m0;l4 1;", 0, 1);
-        turns("m0;l4 1;l4 1;", 0, 1);
-        turns("m0;l0 3;l4 1;", 3, 1);
-        turns("m0;l0 3;l1 1;", 3, 1);
-        turns("m0;l0 3;l1 2;", 4, 2);
-        turns("m0;l4 1;l4 1;l2 20;", -40, 1);
-        turns("m0;" + "l2 20;".repeat(12), 0, 1);
+        Trials.turns("m0;", 0, 0);
+        Trials.turns("m0;l4 1;", 0, 1);
+        Trials.turns("m0;l4 1;l4 1;", 0, 1);
+        Trials.turns("m0;l0 3;l4 1;", 3, 1);
+        Trials.turns("m0;l0 3;l1 1;", 3, 1);
+        Trials.turns("m0;l0 3;l1 2;", 4, 2);
+        Trials.turns("m0;l4 1;l4 1;l2 20;", -40, 1);
+        Trials.turns("m0;" + "l2 20;".repeat(12), 0, 1);
         Check.due("no CASE", new OnionProbate().byTurns(1), 0);
-    }
-
-    private static void sides(String text, int first, int other, int last) {
-        OnionProbate x = Check.of(text);
-        Check.due("twoSides(0) of " + text, x.twoSides(0), first);
-        Check.due("twoSides(1) of " + text, x.twoSides(1), other);
-        Check.due("twoSides(2) of " + text, x.twoSides(2), last);
+        // What was tried with more LAYERS must not be left over.
+        OnionProbate x = Check.of("m0;l0 3;l0 4;l0 5;l0 6;e0 1;");
+        for (int layers = 4; layers > 0; layers--) {
+            x.parts(layers, 0);
+            x.byTurns(0);
+            x.peel(0);
+        }
+        Check.due("none is left", x.byTurns(0), 1000);
+        Check.due("none is left", x.byTurns(1), 0);
+        OnionProbate y = Check.of("m0;l0 9;l0 4;l0 5;e0 1;");
+        y.parts(1, 0);
+        y.peel(0);
+        Check.due("two are left", y.byTurns(0), 1009);
     }
 
     private static void twoSides() {
@@ -161,12 +155,12 @@ final class TrialEdges {
             .unchanged();
 
         Doc.says(0, "each till there are none: WORTH of the first; of the other; the LAYER that is peeled last; NONE.");
-        sides("m0;", 0, 0, NONE);
-        sides("m0;l0 3;", 3, 0, 0);
-        sides("m0;l0 3;l0 4;", 3, 4, 1);
-        sides("m0;l0 3;l0 4;l0 5;", 7, 5, 1);
-        sides("m0;" + "l2 20;".repeat(11), 240, 200, 5);
-        sides("m0;" + "l2 20;".repeat(12), 240, 240, 6);
+        Trials.sides("m0;", 0, 0, NONE);
+        Trials.sides("m0;l0 3;", 3, 0, 0);
+        Trials.sides("m0;l0 3;l0 4;", 3, 4, 1);
+        Trials.sides("m0;l0 3;l0 4;l0 5;", 7, 5, 1);
+        Trials.sides("m0;" + "l2 20;".repeat(11), 240, 200, 5);
+        Trials.sides("m0;" + "l2 20;".repeat(12), 240, 240, 6);
     }
 
     private static void nextKind() {
@@ -200,12 +194,7 @@ final class TrialEdges {
         Check.due("no pair across TYPES", Check.of("m0;l1 1;t0;t1;").allows(0), 0);
         Check.due("all twelve", Check.of("m0;" + "l1 1;".repeat(12) + "t2,1;").allows(2), 4095);
         Check.due("no LAYER", Check.of("m0;t2,1;").allows(2), 0);
-    }
-
-    private static void row(String text, int many, int first) {
-        OnionProbate x = Check.of(text);
-        Check.due("run(0) of " + text, x.run(0), many);
-        Check.due("run(1) of " + text, x.run(1), first);
+        Check.due("the sixth TYPE", Check.of("m0;l1 1;t0;t0;t0;t0;t0;t2,1;").allows(2), 1);
     }
 
     private static void run() {
@@ -214,14 +203,14 @@ final class TrialEdges {
             .is("run(MIN)", x -> x.run(MIN), OUTSIDE).is("run(MAX)", x -> x.run(MAX), OUTSIDE).unchanged();
 
         Doc.says(0, "RUN: the longest row of LAYERS of one KIND, one behind the other; the first LAYER of it; NONE.");
-        row("m0;", 0, NONE);
-        row("m0;l4 1;", 1, 0);
-        row("m0;l4 1;l3 1;", 1, 0);
-        row("m0;l4 1;l3 1;l3 2;", 2, 1);
-        row("m0;l3 1;l3 1;l4 2;", 2, 0);
-        row("m0;l3 1;l4 1;l3 1;", 1, 0);
-        row("m0;" + "l3 1;".repeat(12), 12, 0);
-        row("m0;l0 1;" + "l3 1;".repeat(11), 11, 1);
+        Trials.row("m0;", 0, NONE);
+        Trials.row("m0;l4 1;", 1, 0);
+        Trials.row("m0;l4 1;l3 1;", 1, 0);
+        Trials.row("m0;l4 1;l3 1;l3 2;", 2, 1);
+        Trials.row("m0;l3 1;l3 1;l4 2;", 2, 0);
+        Trials.row("m0;l3 1;l4 1;l3 1;", 1, 0);
+        Trials.row("m0;" + "l3 1;".repeat(12), 12, 0);
+        Trials.row("m0;l0 1;" + "l3 1;".repeat(11), 11, 1);
     }
 
     private static void fair() {

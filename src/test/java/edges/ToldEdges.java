@@ -190,6 +190,13 @@ final class ToldEdges {
         Check.due("6 are more than 5", told("m0;l0 6;l0 5;", 9), 0);
         Check.due("the last of twelve", told("m0;" + "l0 1;".repeat(11) + "l0 11;", 9), 11);
         Check.due("all thick, at most", told("m0;" + "l0 20;".repeat(12), 8), 240);
+        OnionProbate x = Check.of("m0;" + "l0 5;".repeat(12) + "e0 1;");
+        for (int i = 0; i < 12; i++) {
+            Check.isSo("there is a LAYER still", x.told(9) != NONE);
+            x.peel(0);
+        }
+        Check.due("none of twelve is left", x.told(9), NONE);
+        Check.due("all thick", x.told(8), 0);
     }
 
     private static void envy() {

@@ -5,8 +5,6 @@ import java.lang.reflect.Method;
 import java.lang.reflect.Modifier;
 import java.nio.file.Files;
 import java.nio.file.Path;
-import java.util.Arrays;
-import java.util.HashSet;
 import java.util.Set;
 import java.util.TreeSet;
 import java.util.regex.Matcher;
@@ -14,11 +12,9 @@ import java.util.regex.Pattern;
 
 /** The face of the document, and those rules of LANGUAGE.md that can be looked up in the file. */
 public final class LanguageTest {
-    private static final String FACE = "feed(int) probate() fault() told(int) layer(int,int) executor(int,int) "
-        + "type(int,int) logged(int,int) peel(int) stop(boolean) visit() year(int) drift(int) undo(int) "
-        + "worthIt(int,int) parts(int,int) byTurns(int) twoSides(int) nextKind(int) allows(int) run(int) fair(int) "
-        + "dry(int,int) guess(int,int,boolean) couldBe() ask() write(int,int) judge() tear() seed(int) keep(int) "
-        + "goBack(int)";
+    /** Its blanks; what it answers (null: a constructor). */
+    private static final Pattern METHOD = Pattern.compile("( {4}| {8})(?:(?:public|private|static) )*"
+        + "(?:(int|void|boolean|long) )?(?!if|for|while|switch)\\w+\\([^()]*\\) \\{");
 
     public static void main(String[] args) throws IOException {
         face();
@@ -32,36 +28,33 @@ public final class LanguageTest {
         Set<String> found = new TreeSet<>();
         for (Method m : OnionProbate.class.getDeclaredMethods()) {
             if (!Modifier.isPrivate(m.getModifiers())) {
-                String types = String.join(",", Arrays.stream(m.getParameterTypes()).map(Class::getName).toList());
-                found.add(m.getName() + "(" + types + ")");
+                found.add(Face.signature(m));
                 Check.isSo(m + " is public, answers int", Modifier.toString(m.getModifiers()).equals("public")
                     && m.getReturnType() == int.class);
             }
         }
-        Check.isSo("the face: " + found, found.equals(new TreeSet<>(Arrays.asList(FACE.split(" ")))));
+        Check.isSo("the face: " + found, found.equals(new TreeSet<>(Face.calls().values())));
         Set<String> constants = new TreeSet<>();
         for (Field f : OnionProbate.class.getDeclaredFields()) {
             if (!Modifier.isPrivate(f.getModifiers())) {
-                constants.add(Modifier.toString(f.getModifiers()) + " " + f.getType() + " " + f.getName());
+                constants.add(f.getName());
+                Check.isSo(f + " is a constant", f.toString().startsWith("public static final int "));
             }
         }
-        Check.isSo("the constants: " + constants, constants.toString().equals("[public static final int FULL, "
-            + "public static final int NONE, public static final int NOT, public static final int OUTSIDE, "
-            + "public static final int UNKNOWN]"));
+        Check.isSo("the constants: " + constants, constants.equals(Face.constants().keySet()));
         Constructor<?>[] makers = OnionProbate.class.getDeclaredConstructors();
         Check.isSo("one public constructor", makers.length == 1 && makers[0].getParameterCount() == 0
             && Modifier.isPublic(makers[0].getModifiers()));
     }
 
     private static void classesInside() {
-        Set<String> open = new HashSet<>();
-        for (String method : FACE.split(" ")) {
-            open.add(method.substring(0, method.indexOf('(')));
-        }
+        Set<String> open = Face.calls().keySet();
         Class<?>[] inside = OnionProbate.class.getDeclaredClasses();
         Check.isSo("at most twelve classes", inside.length < 12);
         for (Class<?> c : inside) {
             Check.isSo(c + " is static", Modifier.isStatic(c.getModifiers()));
+            Check.isSo(c + " is not public", !Modifier.isPublic(c.getModifiers()));
+            Check.isSo(c + " has no class inside", c.getDeclaredClasses().length == 0);
             Check.isSo(c + " has few fields", c.getDeclaredFields().length <= 20);
             for (Method m : c.getDeclaredMethods()) {
                 Check.isSo(m + " has a name of its own", !open.contains(m.getName()));
@@ -69,7 +62,12 @@ public final class LanguageTest {
             }
         }
         for (Method m : OnionProbate.class.getDeclaredMethods()) {
-            Check.isSo(m + " has a name of its own", Modifier.isPublic(m.getModifiers()) || !open.contains(m.getName()));
+            boolean isPublic = Modifier.isPublic(m.getModifiers());
+            Check.isSo(m + " has a name of its own", isPublic || !open.contains(m.getName()));
+        }
+        for (Field f : OnionProbate.class.getDeclaredFields()) {
+            int how = f.getModifiers();
+            Check.isSo(f + " is no static state", !Modifier.isStatic(how) || Modifier.isFinal(how));
         }
     }
 
@@ -95,19 +93,26 @@ public final class LanguageTest {
         }
         Check.isSo("the library: " + library, Set.of("System.arraycopy", "Math.min", "Math.max", "Integer.bitCount")
             .containsAll(library));
-        methodLengths(code);
+        methods(code);
     }
 
-    private static void methodLengths(String code) {
-        int start = 0;
+    /** Rules 11 and 12: each is short, and only a constructor makes rows, so that no call makes any. */
+    private static void methods(String code) {
         String[] lines = code.split("\n", -1);
+        int found = 0;
         for (int i = 0; i < lines.length; i++) {
-            if (lines[i].matches(" {4,8}\\w.*\\) \\{")) {
-                start = i;
-            }
-            if (lines[i].matches(" {4,8}\\}")) {
-                Check.isSo("the method at line " + start + " is short", i - start <= 60 || lines[i].startsWith("    }"));
+            Matcher head = METHOD.matcher(lines[i]);
+            if (head.matches()) {
+                found++;
+                int end = i;
+                while (!lines[end].equals(head.group(1) + "}")) {
+                    Check.isSo(lines[end].strip() + " makes nothing", head.group(2) == null
+                        || !lines[end].matches(".*\\bnew\\b.*"));
+                    end++;
+                }
+                Check.isSo(lines[i].strip() + " is short", end - i < 60);
             }
         }
+        Check.isSo("the methods are found: " + found, found > 33);
     }
 }

@@ -1,7 +1,7 @@
 import java.util.Arrays;
 import java.util.Random;
 
-/** What is TRIED, held against what comes of it if it is done: on objects with the same text, by the deeds themselves. */
+/** What is TRIED, held against what comes of it if it is done, by the deeds of objects with the same text. */
 final class ByDoing {
     private static final int NONE = OnionProbate.NONE;
     private static final int TEXTS = 60;
@@ -105,8 +105,8 @@ final class ByDoing {
     }
 
     private static void byTurns(String text) {
-        Doc.says(0, ", who is first has so much more WORTH than the other at last, if each does his best for that: how much, "
-            + "and 1000; how many the first should peel first");
+        Doc.says(0, ", who is first has so much more WORTH than the other at last, if each does his best for that: "
+            + "how much, and 1000; how many the first should peel first");
         OnionProbate x = Check.of(text);
         int much = x.byTurns(0);
         int first = x.byTurns(1);

@@ -64,8 +64,8 @@ final class FirstLines {
     }
 
     private static void the512thCall() {
-        Doc.says(Doc.WHAT_IT_IS, "An object is used for at most 512 calls after it has been made; what later calls answer "
-            + "is free.");
+        Doc.says(Doc.WHAT_IT_IS, "An object is used for at most 512 calls after it has been made; what later calls "
+            + "answer is free.");
         Map<ToIntFunction<OnionProbate>, Integer> due = calls();
         Check.due("one of each call", due.size(), Face.calls().size());
         int which = 0;
@@ -159,8 +159,8 @@ final class FirstLines {
 
     private static void refusals() {
         Doc.says(0, "NONE is -1. REFUSALS, of several the first in this order: UNKNOWN (a LAYER, EXECUTOR, TYPE, IMAGE "
-            + "that there is not; one twice, where two are asked), OUTSIDE (another number out of its bounds), NOT (not "
-            + "now, as told), FULL. They are far below all that is counted: -1000000001 and on.");
+            + "that there is not; one twice, where two are asked), OUTSIDE (another number out of its bounds), NOT "
+            + "(not now, as told), FULL. They are far below all that is counted: -1000000001 and on.");
         Check.due("NONE", OnionProbate.NONE, -1);
         int[] refusals = {OnionProbate.UNKNOWN, OnionProbate.OUTSIDE, OnionProbate.NOT, OnionProbate.FULL};
         for (int i = 0; i < refusals.length; i++) {
